@@ -1,11 +1,10 @@
 /**
- * A yard of trains, a timetable office and an exchange of waggons on the same tracks. The face checks what it is
- * given and throws; the classes inside hold the state and are called with checked numbers only.
+ * A yard of trains, a timetable office and an exchange of waggons on the same tracks; what each call does stands in
+ * DOC.md. Only the face throws, and before it changes anything: so the classes inside, which hold the state in rows
+ * made once, are called with checked numbers alone.
  */
 public final class Warpyard {
-    /** None. */
     public static final int NONE = -1;
-    /** What becomes of a booking. */
     public static final int OPEN = 0, MET = 1, BROKEN = 2;
 
     private static final int BLOCKS = 8;
@@ -25,6 +24,7 @@ public final class Warpyard {
 
     private final Tracks tracks = new Tracks();
     private final Trains trains = new Trains();
+    /** Kept from call to call, so that asking what would be reached makes no new objects. */
     private final Trains trial = new Trains();
     private final Bookings bookings = new Bookings();
     private final Waggons waggons = new Waggons();
@@ -32,13 +32,11 @@ public final class Warpyard {
     private int now;
     private int money;
 
-    /** Creates a yard without trains and waggons. */
     public Warpyard() {
     }
 
     // ---- trains and switches
 
-    /** Puts a train on a block; returns its number. */
     public int addTrain(int block, boolean isRight) throws IndexOutOfBoundsException, IllegalStateException {
         needBlock(block);
         if (trains.count >= MOST_TRAINS) {
@@ -50,7 +48,6 @@ public final class Warpyard {
         return trains.add(block, isRight);
     }
 
-    /** Holds a train, or lets it go; returns true if that changes something. */
     public boolean hold(int train, boolean is) throws IndexOutOfBoundsException {
         needTrain(train);
         boolean changes = trains.held[train] != is;
@@ -58,7 +55,6 @@ public final class Warpyard {
         return changes;
     }
 
-    /** Gives a train more delay; returns its delay then. */
     public int delay(int train, int minutes) throws IndexOutOfBoundsException, IllegalArgumentException {
         needTrain(train);
         needMinutesToRun(minutes);
@@ -70,13 +66,11 @@ public final class Warpyard {
         return longer;
     }
 
-    /** Turns a train round where it stands; returns true if it heads to the right then. */
     public boolean reverse(int train) throws IndexOutOfBoundsException {
         needTrain(train);
         return trains.turnRound(train);
     }
 
-    /** Throws a switch to its other position; returns true if it is turned then. */
     public boolean throwSwitch(int number) throws IndexOutOfBoundsException {
         if (number < 0 || number >= SWITCHES) {
             throw new IndexOutOfBoundsException("no such switch");
@@ -84,19 +78,16 @@ public final class Warpyard {
         return tracks.turn(number);
     }
 
-    /** Returns the block on which a train stands. */
     public int block(int train) throws IndexOutOfBoundsException {
         needTrain(train);
         return trains.block[train];
     }
 
-    /** Tells whether a train heads to the right. */
     public boolean isRight(int train) throws IndexOutOfBoundsException {
         needTrain(train);
         return trains.right[train];
     }
 
-    /** Returns the train on a block; NONE if there is none. */
     public int trainOn(int block) throws IndexOutOfBoundsException {
         needBlock(block);
         return trains.standingOn(block);
@@ -104,7 +95,6 @@ public final class Warpyard {
 
     // ---- minutes
 
-    /** Lets minutes run; returns how often a train came to another block in them. */
     public int run(int minutes) throws IllegalArgumentException, IllegalStateException {
         needMinutesToRun(minutes);
         if (now + minutes > LAST_MINUTE) {
@@ -119,12 +109,10 @@ public final class Warpyard {
         return moves;
     }
 
-    /** Returns the clock. */
     public int clock() {
         return now;
     }
 
-    /** Returns in how many minutes a train would first stand on a block; NONE if it takes more than 100. */
     public int reaches(int train, int block) throws IndexOutOfBoundsException {
         needTrain(train);
         needBlock(block);
@@ -143,7 +131,6 @@ public final class Warpyard {
 
     // ---- bookings
 
-    /** Books a block; returns the number of the booking, NONE if it would meet one for another train. */
     public int book(int train, int block, int first, int last)
             throws IndexOutOfBoundsException, IllegalArgumentException, IllegalStateException {
         needTrain(train);
@@ -158,7 +145,6 @@ public final class Warpyard {
         return bookings.add(train, block, first, last);
     }
 
-    /** Tells whether a train could book a block for some minutes. */
     public boolean canBook(int train, int block, int first, int last)
             throws IndexOutOfBoundsException, IllegalArgumentException {
         needTrain(train);
@@ -167,7 +153,6 @@ public final class Warpyard {
         return !bookings.meetsAnother(train, block, first, last);
     }
 
-    /** Tells the same, minute by minute. */
     public boolean canBookByMinutes(int train, int block, int first, int last)
             throws IndexOutOfBoundsException, IllegalArgumentException {
         needTrain(train);
@@ -181,7 +166,6 @@ public final class Warpyard {
         return true;
     }
 
-    /** Returns what became of a booking: OPEN, MET or BROKEN. */
     public int booking(int booking) throws IndexOutOfBoundsException {
         needBooking(booking);
         if (bookings.lateness[booking] != NONE) {
@@ -190,7 +174,6 @@ public final class Warpyard {
         return bookings.last[booking] < now ? BROKEN : OPEN;
     }
 
-    /** Returns by how many minutes a booking was late; NONE if it is not met. */
     public int late(int booking) throws IndexOutOfBoundsException {
         needBooking(booking);
         return bookings.lateness[booking];
@@ -198,7 +181,6 @@ public final class Warpyard {
 
     // ---- waggons
 
-    /** Puts a waggon into a siding, at the switch; returns its number. */
     public int addWaggon(int siding, int weight)
             throws IndexOutOfBoundsException, IllegalArgumentException, IllegalStateException {
         needSiding(siding);
@@ -212,7 +194,6 @@ public final class Warpyard {
         return waggons.add(Waggons.rowOfSiding(siding), weight);
     }
 
-    /** Offers a price for a waggon, in place of an offer that it has. */
     public void offer(int waggon, int siding, int minute, int price)
             throws IndexOutOfBoundsException, IllegalArgumentException {
         if (waggon < 0 || waggon >= waggons.count) {
@@ -228,7 +209,6 @@ public final class Warpyard {
         offers.put(waggon, siding, minute, price);
     }
 
-    /** Lets a train couple the waggon at the switch; returns the waggon. */
     public int couple(int train) throws IndexOutOfBoundsException, IllegalStateException {
         needTrain(train);
         int from = Waggons.rowOfSiding(sidingUnder(train));
@@ -244,7 +224,6 @@ public final class Warpyard {
         return waggon;
     }
 
-    /** Lets a train leave its last waggon; returns what is earned by that, 0 if no offer is done. */
     public int leave(int train) throws IndexOutOfBoundsException, IllegalStateException {
         needTrain(train);
         int siding = sidingUnder(train);
@@ -260,7 +239,6 @@ public final class Warpyard {
         return price;
     }
 
-    /** Returns a waggon of a siding, from the switch on, or of a train, from its first one on; NONE beyond them. */
     public int waggonAt(int where, int place) throws IndexOutOfBoundsException {
         boolean isSiding = isSiding(where);
         if (!isSiding && (where < WHERE_TRAINS_BEGIN || where >= WHERE_TRAINS_BEGIN + trains.count)) {
@@ -275,7 +253,6 @@ public final class Warpyard {
         return waggons.fromFirst(Waggons.rowOfTrain(where - WHERE_TRAINS_BEGIN), place);
     }
 
-    /** Returns all that was earned. */
     public int earned() {
         return money;
     }
@@ -339,9 +316,8 @@ public final class Warpyard {
         return block;
     }
 
-    /** The switches, and which blocks are joined as they lie. */
     private static final class Tracks {
-        /** Behind an end where the track stops; NONE is behind an end that a switch leaves unjoined. */
+        /** Not NONE, which is behind an end that a switch leaves unjoined: there a train waits and does not turn. */
         static final int DEAD_END = -2;
 
         final boolean[] turned = new boolean[SWITCHES];
@@ -388,7 +364,6 @@ public final class Warpyard {
         }
     }
 
-    /** Where the trains stand, and how a minute moves them. */
     private static final class Trains {
         final int[] block = new int[MOST_TRAINS];
         final boolean[] right = new boolean[MOST_TRAINS];
@@ -428,7 +403,6 @@ public final class Warpyard {
             }
         }
 
-        /** Returns how many trains came to another block. */
         int runMinute(Tracks tracks, Bookings bookings, int minute) {
             int moves = 0;
             for (int train = 0; train < count; train++) {
@@ -460,13 +434,12 @@ public final class Warpyard {
         }
     }
 
-    /** The bookings; which of them are broken follows from the clock. */
+    /** OPEN and BROKEN are not held: they follow from the clock. */
     private static final class Bookings {
         final int[] train = new int[MOST_BOOKINGS];
         final int[] block = new int[MOST_BOOKINGS];
         final int[] first = new int[MOST_BOOKINGS];
         final int[] last = new int[MOST_BOOKINGS];
-        /** NONE for those that are not met. */
         final int[] lateness = new int[MOST_BOOKINGS];
         int count;
 
@@ -512,9 +485,9 @@ public final class Warpyard {
         }
     }
 
-    /** The waggons in their rows: one for each siding and one for each train; each changes at its last end only. */
+    /** Sidings and trains alike take and give waggons at one end only, so each is a row with its last one there. */
     private static final class Waggons {
-        /** Any row could hold all waggons. */
+        /** Light waggons might all hang on one train. */
         static final int PLACES = MOST_WAGGONS;
         static final int ROWS = SIDINGS + MOST_TRAINS;
 
@@ -575,8 +548,8 @@ public final class Warpyard {
         }
     }
 
-    /** The offers, one at most for each waggon. */
     private static final class Offers {
+        /** What a new row holds, so that waggons begin without an offer. */
         static final int NO_SIDING = 0;
         static final int MINUTES_OF_HOUR = 60;
         static final int LESS_EACH_HOUR = 10;
@@ -591,7 +564,6 @@ public final class Warpyard {
             price[waggon] = forPrice;
         }
 
-        /** Does the offer of a waggon that was left in a siding, if it asks that; returns what is earned. */
         int settle(int waggon, int inSiding, int clock) {
             if (siding[waggon] != inSiding) {
                 return 0;
