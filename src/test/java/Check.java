@@ -1,3 +1,6 @@
+import java.util.LinkedHashSet;
+import java.util.Set;
+
 /** Compares answers with those that are due, and counts the wrong ones. */
 final class Check {
   interface Call {
@@ -12,8 +15,30 @@ final class Check {
 
   private static int right = 0;
   private static int wrong = 0;
+  private static final Set<String> SAID = new LinkedHashSet<>();
+  private static String sentence = "";
+  private static int beforeSentence = 0;
 
   private Check() {
+  }
+
+  /** Begins the test of a sentence of the document, which must hold at least one comparison. */
+  static void says(String where, String words) {
+    endSentence();
+    sentence = Document.named(where, words);
+    SAID.add(sentence);
+    beforeSentence = right + wrong;
+  }
+
+  static void endSentence() {
+    if (!sentence.isEmpty() && right + wrong == beforeSentence) {
+      tell("nothing is compared for: " + sentence);
+    }
+    sentence = "";
+  }
+
+  static Set<String> said() {
+    return SAID;
   }
 
   static void is(String what, Object want, Call call) {
@@ -21,10 +46,7 @@ final class Check {
     if (want.equals(got)) {
       right++;
     } else {
-      wrong++;
-      if (wrong <= MOST_TOLD) {
-        System.out.println(what + " answered " + got + ", due is " + want);
-      }
+      tell(what + " answered " + got + ", due is " + want + (sentence.isEmpty() ? "" : " [" + sentence + "]"));
     }
   }
 
@@ -47,6 +69,13 @@ final class Check {
     fails(what, IllegalStateException.class, act);
   }
 
+  static void fails(String what, Class<? extends RuntimeException> want, Act act) {
+    is(what, want, () -> {
+      act.happen();
+      return "nothing";
+    });
+  }
+
   /** The answer of a call, or the class of what it throws. */
   static Object outcome(Call call) {
     try {
@@ -57,16 +86,17 @@ final class Check {
   }
 
   static void end(String name) {
+    endSentence();
     System.out.println(name + ": " + right + " answers right, " + wrong + " wrong");
     if (wrong > 0 || right == 0) {
       System.exit(1);
     }
   }
 
-  private static void fails(String what, Class<? extends RuntimeException> want, Act act) {
-    is(what, want, () -> {
-      act.happen();
-      return "nothing";
-    });
+  private static void tell(String text) {
+    wrong++;
+    if (wrong <= MOST_TOLD) {
+      System.out.println(text);
+    }
   }
 }
